@@ -152,20 +152,40 @@ public final class StableTest {
         java.util.Random random = new java.util.Random(9);
         for (int run = 0; run < 30; run++) {
             CarriageHire x = new CarriageHire();
-            int horses = random.nextInt(17);
-            for (int n = 0; n < horses; n++) {
-                x.horse(random.nextInt(2), 148 + random.nextInt(8), 7 + random.nextInt(4), 0);
+            int[][] horses = new int[random.nextInt(17)][3];
+            for (int[] h : horses) {
+                h[0] = random.nextInt(2);
+                h[1] = 148 + random.nextInt(8);
+                h[2] = 7 + random.nextInt(4);
+                x.horse(h[0], h[1], h[2], 0);
             }
-            x.spans(random.nextInt(8), random.nextInt(4));
+            int height = random.nextInt(8);
+            int pace = random.nextInt(4);
+            x.spans(height, pace);
             int[] counted = new int[17];
-            for (int bits = 0; bits < 1 << horses; bits++) {
-                int size = Integer.bitCount(bits);
-                if ((size == 2 || size == 4) && x.match(bits)) {
-                    counted[size]++;
-                }
+            for (int bits = 0; bits < 1 << horses.length; bits++) {
+                counted[Integer.bitCount(bits)] += allMatch(horses, bits, height, pace) ? 1 : 0;
             }
             Due.is("9: matches(2)", x.matches(2), counted[2]);
             Due.is("9: matches(4)", x.matches(4), counted[4]);
+            for (int n = 0; n < 100; n++) {
+                int bits = random.nextInt(1 << horses.length);
+                Due.is("8: match(" + bits + ")", x.match(bits) ? 1 : 0,
+                        Integer.bitCount(bits) >= 2 && allMatch(horses, bits, height, pace) ? 1 : 0);
+            }
         }
+    }
+
+    private static boolean allMatch(int[][] horses, int bits, int height, int pace) {
+        for (int a = 0; a < horses.length; a++) {
+            for (int b = 0; b < a; b++) {
+                if ((bits >> a & bits >> b & 1) == 1 && (horses[a][0] != horses[b][0]
+                        || Math.abs(horses[a][1] - horses[b][1]) > height
+                        || Math.abs(horses[a][2] - horses[b][2]) > pace)) {
+                    return false;
+                }
+            }
+        }
+        return true;
     }
 }
