@@ -502,7 +502,7 @@ public final class CarriageHire {
         private static final int BITS_PER_JOB = 4;
         private static final int BITS_BELOW = BITS_PER_JOB * JOBS_MAX;
         // Two of these can be added without wrapping.
-        private static final long IMPOSSIBLE = Long.MAX_VALUE / 4;
+        private static final long IMPOSSIBLE = 1L << 61;
 
         private final Day day;
         private final long[] chainKeys = new long[1 << JOBS_MAX];
@@ -837,7 +837,7 @@ public final class CarriageHire {
         private static final long WORD_HORSES = 0x686f72736573L;
         private static final long WORD_LATE = 0x6c617465L;
 
-        private static final int UNKNOWN = Integer.MIN_VALUE;
+        private static final int UNKNOWN = -1000;
 
         private final Tape tape;
         private final int[] codes = new int[TEXT_MAX];

@@ -248,7 +248,8 @@ public final class PricesTest {
         fault(hundred + ";price 1;", 2, end + 7);
         fault(hundred + ";when 1;", 2, end + 6);
         CarriageHire x = new CarriageHire();
-        Due.prices(x, "price 1" + "+1".repeat(99) + ";");
+        Due.is("23: a hundred each time", Due.prices(x, hundred + ";"), 2);
+        Due.is("23: a hundred each time", Due.prices(x, "price 1" + "+1".repeat(99) + ";"), 1);
         x.job(0, 0, 0, 0, 0, 1);
         Due.is("25: a hundred", x.price(0, 0), 100);
     }
@@ -269,6 +270,9 @@ public final class PricesTest {
         fault("price not not not not ---1;", 0, NONE);
         fault("price not not not not ----1;", 2, 26);
         fault("price ((((((((", 2, 14);
+        fault("price (((((((())))))));", 2, 14);
+        fault("price --------;", 2, 14);
+        fault("price not not not not not not not not;", 2, 37);
         fault("price (((((((not 1)))))));", 2, 17);
         fault("price (((((((-1)))))));", 2, 14);
         // What stands beside is not within.

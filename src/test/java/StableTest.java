@@ -143,6 +143,16 @@ public final class StableTest {
         }
         Due.is("9: all pairs", x.matches(2), 120);
         Due.is("9: all fours", x.matches(4), 1820);
+        CarriageHire y = new CarriageHire();
+        for (int n = 0; n < 6; n++) {
+            y.horse(3, 150 + n, 8, 0);
+        }
+        Due.is("9: within 5", y.matches(2), 15);
+        y.spans(1, 2);
+        Due.is("9: within 1", y.matches(2), 5);
+        Due.is("9: within 1", y.matches(4), 0);
+        y.spans(3, 2);
+        Due.is("9: within 3", y.matches(4), 3);
         for (int n : new int[] {-1, 0, 1, 3, 5, 6, 16, Integer.MAX_VALUE, Integer.MIN_VALUE}) {
             Due.is("9: matches(" + n + ")", x.matches(n), CarriageHire.NONE);
         }
