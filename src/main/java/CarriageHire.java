@@ -3,9 +3,9 @@ import java.util.Arrays;
 /**
  * A carriage hirer's yard for one day. Words in capitals are the document's terms.
  *
- * <p>The face only tests what comes in and hands it on: the HORSES are in Stable, WAYS and JOBS in Day, BEST in Lays,
- * TEAMS in Teams, the text of PRICES in Tape, PriceReader, PriceList and Pricer, and the breaks in Book. The rows are
- * made once, with the object, so that calls make next to nothing.
+ * <p>The face hands each call on: the HORSES are in Stable, WAYS and JOBS in Day, BEST in Lays, TEAMS in Teams, the text
+ * of PRICES in Tape, PriceReader, PriceList and Pricer, and the breaks in Book. The rows are made once, with the object,
+ * so that calls make next to nothing.
  */
 public final class CarriageHire {
     public static final int NONE = -1;
