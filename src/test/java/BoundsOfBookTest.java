@@ -57,6 +57,7 @@ public final class BoundsOfBookTest {
         Due.is("26, 40 at most: one that can't be", x.broken(6, 2000, 2101, 40), NONE);
         Due.is("26, 40 at most: about(4)", x.about(4), 40);
         Due.is("26, the 40th is there", x.whole(5, 2000, 39), 0);
+        Due.no("27, none behind the 40th", x.untell(40, 5000));
         for (int n = 0; n < 40; n++) {
             Due.yes("27, each of 40", x.untell(n, n));
         }
@@ -90,7 +91,7 @@ public final class BoundsOfBookTest {
 
     private static void promise27Limits() {
         for (int told : new int[] {0, 1, 2500, 4999, 5000}) {
-            Limits.are("27, not before it was TOLD at " + told + ", up to 5000", told, 5000, v -> untell(told, v), 1, 0);
+            Limits.are("27, not before " + told + ", up to 5000", told, 5000, v -> untell(told, v), 1, 0);
         }
     }
 
@@ -120,8 +121,8 @@ public final class BoundsOfBookTest {
     }
 
     private static void promise27RefusedDoesNothing() {
-        int[][] bad = {{0, 8}, {0, 3}, {0, 5000}, {1, 4}, {1, -1}, {1, 5001}, {2, 4999}, {2, 5001}, {3, -1}, {4, 9}, {-1, 9},
-            {40, 9}, {MIN, 9}, {MAX, 9}, {1, MIN}, {1, MAX}};
+        int[][] bad = {{0, 8}, {0, 3}, {0, 5000}, {1, 4}, {1, -1}, {1, 5001}, {2, 4999}, {2, 5001}, {3, -1}, {4, 9},
+            {-1, 9}, {40, 9}, {MIN, 9}, {MAX, 9}, {1, MIN}, {1, MAX}};
         Twins twins = Twins.busy();
         for (int[] b : bad) {
             Due.no("27, false: untell(" + b[0] + ", " + b[1] + ")", twins.tried.untell(b[0], b[1]));
@@ -208,8 +209,14 @@ public final class BoundsOfBookTest {
                 }
             }
         }
-        for (int m : new int[] {-1, 3001, MIN, MAX}) {
-            Due.is("29, m can't be: " + m, new CarriageHire().free(0, m, 1, 0), NONE);
+        CarriageHire x = new CarriageHire();
+        x.broken(0, 0, 3000, 0);
+        for (int m : new int[] {-1, -2, -500, 3001, MIN, MAX}) {
+            Due.is("29, m can't be: " + m, x.free(0, m, 1, 0), NONE);
+            Due.is("29, m can't be, though it reaches a break: " + m, x.free(0, m, 500, 0), NONE);
+        }
+        for (int n : new int[] {-1, 0, 501, MIN, MAX}) {
+            Due.is("29, n can't be, though it is BROKEN: " + n, x.free(0, 0, n, 0), NONE);
         }
     }
 

@@ -24,6 +24,7 @@ public final class BoundsOfHorsesTest {
         promise8SixteenAtOnce();
         promise9TwoOrFourAlone();
         promise9FewAndAll();
+        promise9DifferAtMost();
         Due.finish();
     }
 
@@ -188,7 +189,8 @@ public final class BoundsOfHorsesTest {
     }
 
     private static void promise4RefusedDoesNothing() {
-        int[][] bad = {{-1, 2}, {51, 2}, {5, -1}, {5, 11}, {50, 11}, {51, 10}, {0, -1}, {-1, 0}, {MIN, MAX}, {MAX, MIN}};
+        int[][] bad = {{-1, 2}, {51, 2}, {5, -1}, {5, 11}, {50, 11}, {51, 10}, {0, -1}, {-1, 0}, {MIN, MAX},
+            {MAX, MIN}};
         Twins twins = Twins.busy();
         for (int[] b : bad) {
             Due.no("4, if one can't be: " + b[0] + ", " + b[1], twins.tried.spans(b[0], b[1]));
@@ -289,5 +291,29 @@ public final class BoundsOfHorsesTest {
         x.spans(6, 0);
         Due.is("9, one of each COLOUR", x.matches(2), 8);
         Due.is("9, none of four", x.matches(4), 0);
+    }
+
+    private static void promise9DifferAtMost() {
+        CarriageHire x = new CarriageHire();
+        for (int n = 0; n < 16; n++) {
+            x.horse(1, 150 + n, 8, 0);
+        }
+        int[] spans = {5, 2, 3, 15, 14, 0};
+        int[] twos = {65, 29, 42, 120, 119, 0};
+        int[] fours = {115, 0, 13, 1820, 1729, 0};
+        for (int n = 0; n < spans.length; n++) {
+            x.spans(spans[n], 0);
+            Due.is("9, two by " + spans[n] + " at most", x.matches(2), twos[n]);
+            Due.is("9, each two of four by " + spans[n] + " at most", x.matches(4), fours[n]);
+        }
+        CarriageHire y = new CarriageHire();
+        y.horse(1, 150, 8, 0);
+        y.horse(1, 155, 8, 0);
+        y.horse(1, 150, 10, 0);
+        y.horse(1, 155, 10, 0);
+        Due.is("9, four in a square", y.matches(4), 1);
+        y.horse(1, 156, 8, 0);
+        Due.is("9, one that reaches but two", y.matches(2), 8);
+        Due.is("9, one that reaches but two", y.matches(4), 1);
     }
 }

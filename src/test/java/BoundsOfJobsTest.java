@@ -31,6 +31,7 @@ public final class BoundsOfJobsTest {
         promise14LeastAndGreatest();
         promise14OrderOfBegin();
         promise14AsManyChainsAsCarriages();
+        promise14IsOfWhatIsNow();
         promise15OneChainAtLeast();
         promise15TenInOneChain();
         promise16NoneSuch();
@@ -132,6 +133,7 @@ public final class BoundsOfJobsTest {
         Due.is("10, 10 at most: one that can't be", x.job(3, 0, 0, 10, 0, 1), NONE);
         for (int n = 0; n < 10; n++) {
             Due.is("10, 10 at most: END of " + n, x.of(n, 0), n);
+            noneBehindTheTenth(x, n);
             Due.yes("11, drop " + n, x.drop(n));
         }
         Due.is("10, a dropped one's number stays", x.job(0, 0, 0, 10, 0, 1), NONE);
@@ -146,10 +148,24 @@ public final class BoundsOfJobsTest {
         full.areAlike("10, if there are 10");
     }
 
+    private static void noneBehindTheTenth(CarriageHire x, int other) {
+        Due.is("12, none behind the 10th", x.of(10, 0), NONE);
+        Due.no("11, none behind the 10th", x.drop(10));
+        Due.no("13, none behind the 10th", x.behind(other, 10));
+        Due.no("13, none behind the 10th", x.behind(10, other));
+        Due.is("16, none behind the 10th", x.chain(10), NONE);
+        Due.no("17, none behind the 10th", x.team(10, 0));
+        Due.is("18, none behind the 10th", x.right(10), NONE);
+        Due.is("19, none behind the 10th", x.strength(10, 0), NONE);
+        Due.is("20, none behind the 10th", x.standIn(10, 0), NONE);
+        Due.is("25, none behind the 10th", x.price(10, 0), 0);
+    }
+
     private static void promise10RefusedDoesNothing() {
         int[][] bad = {{-1, 1, 2, 3, 4, 1}, {3, 1, 2, 3, 4, 1}, {0, -1, 2, 3, 4, 1}, {0, 8, 2, 3, 4, 1},
             {0, 1, -1, 3, 4, 1}, {0, 1, 8, 3, 4, 1}, {0, 1, 2, -1, 4, 1}, {0, 1, 2, 1401, 4, 1}, {0, 1, 2, 3, -1, 1},
-            {0, 1, 2, 3, 301, 1}, {0, 1, 2, 3, 4, 0}, {0, 1, 2, 3, 4, 3}, {0, 1, 2, 3, 4, 5}, {MIN, MAX, MIN, MAX, MIN, MAX}};
+            {0, 1, 2, 3, 301, 1}, {0, 1, 2, 3, 4, 0}, {0, 1, 2, 3, 4, 3}, {0, 1, 2, 3, 4, 5},
+            {MIN, MAX, MIN, MAX, MIN, MAX}};
         Twins twins = Twins.busy();
         for (int[] b : bad) {
             Due.is("10, if it can't be", twins.tried.job(b[0], b[1], b[2], b[3], b[4], b[5]), NONE);
@@ -402,6 +418,61 @@ public final class BoundsOfJobsTest {
             // Each CHAIN fewer costs 100 - 2 more; all the others are as they are.
             Due.is("14, at most " + carriages, x.empty(), 2 * carriages + 100 * (7 - carriages));
             Due.is("15, at most " + carriages, x.chains(), carriages);
+        }
+    }
+
+    private static void change(CarriageHire x, int kind) {
+        switch (kind) {
+            case 0:
+                x.way(0, 1, 30);
+                break;
+            case 1:
+                x.carriages(1);
+                break;
+            case 2:
+                x.job(0, 2, 2, 500, 0, 1);
+                break;
+            case 3:
+                x.drop(0);
+                break;
+            default:
+                break;
+        }
+    }
+
+    /** BEST asked for between two changes, and only behind both, is the same: none of them is overlooked. */
+    private static void promise14IsOfWhatIsNow() {
+        for (int first = 0; first < 5; first++) {
+            for (int second = 0; second < 5; second++) {
+                CarriageHire asked = new CarriageHire();
+                CarriageHire unasked = new CarriageHire();
+                for (CarriageHire x : new CarriageHire[] {asked, unasked}) {
+                    x.way(0, 1, 10);
+                    x.way(0, 2, 7);
+                    x.way(1, 2, 100);
+                    x.job(0, 1, 1, 100, 0, 1);
+                    x.job(0, 2, 2, 300, 0, 1);
+                }
+                Due.is("14, at first", asked.empty(), 34);
+                change(asked, first);
+                change(asked, second);
+                change(unasked, first);
+                change(unasked, second);
+                String of = first + " and " + second;
+                Due.is("14, as it is now behind " + of, asked.empty(), unasked.empty());
+                Due.is("15, as it is now behind " + of, asked.chains(), unasked.chains());
+                Due.is("16, as it is now behind " + of, asked.chain(0), unasked.chain(0));
+                Due.is("16, as it is now behind " + of, asked.chain(1), unasked.chain(1));
+            }
+        }
+        CarriageHire x = new CarriageHire();
+        x.way(0, 1, 10);
+        x.job(0, 1, 1, 100, 0, 1);
+        // Place 2 is as near to 1 as to the YARD: by it the way back is saved.
+        int[] due = {20, 60, 60, 30, 0};
+        for (int kind = -1; kind < 4; kind++) {
+            change(x, kind);
+            Due.is("14, one change more: " + kind, x.empty(), due[kind + 1]);
         }
     }
 

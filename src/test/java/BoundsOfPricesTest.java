@@ -265,6 +265,8 @@ public final class BoundsOfPricesTest {
             read("23, within 8, no TOKEN: the least", eight + "$", NO_TOKEN, eight.length());
             read("23, within 8: what opens more", eight + open[n] + "1", CANNOT_STAND, eight.length());
             read("23, within 8: the end", eight.trim(), CANNOT_STAND, eight.trim().length());
+            good("23, within 7 in a when", seven.replace("price", "when") + "1" + shut[n].repeat(7) + " price 1;");
+            read("23, within 8 in a when", eight.replace("price", "when") + "1", CANNOT_STAND, eight.length() - 1);
         }
         good("23, within 7 of all kinds", "price not not ((-(-1)));");
         read("23, within 8 of all kinds", "price not not ((-(--1)));", CANNOT_STAND, 20);
@@ -352,8 +354,8 @@ public final class BoundsOfPricesTest {
             if (joins || digit || blank) {
                 good("23, the byte " + code + " between", "price 1" + is + (blank ? ";" : "1;"));
             } else if (!is.equals(";")) {
-                read("23, the byte " + code + " behind a digit", "price 1" + is, word || !sign ? NO_TOKEN : CANNOT_STAND,
-                        word ? 6 : 7);
+                int behind = word || !sign ? NO_TOKEN : CANNOT_STAND;
+                read("23, the byte " + code + " behind a digit", "price 1" + is, behind, word ? 6 : 7);
             }
         }
     }
@@ -450,8 +452,9 @@ public final class BoundsOfPricesTest {
     }
 
     private static void promise24TheEnd() {
-        String[] cut = {"price", "price ", "price 1", "price 1 \n", "price (", "price (1", "price -", "price not", "price 1+",
-            "price 1<", "price 1 or", "price 1 and", "when", "when 1", "when 1 price", "price 1; when", "price late"};
+        String[] cut = {"price", "price ", "price 1", "price 1 \n", "price (", "price (1", "price -", "price not",
+            "price 1+", "price 1<", "price 1 or", "price 1 and", "when", "when 1", "when 1 price", "price 1; when",
+            "price late"};
         for (String text : cut) {
             read("24, the end: the text's length", text, CANNOT_STAND, text.length());
         }
@@ -531,6 +534,8 @@ public final class BoundsOfPricesTest {
         Due.is("25, when the least int", priced("when 65536*32768 price 5; price 6;").price(0, 0), 5);
         Due.is("25, when it wraps to 0", priced("when 65536*65536 price 5; price 6;").price(0, 0), 6);
         Due.is("25, when by 0", priced("when 1/0 price 5; price 6;").price(0, 0), 6);
+        Due.is("25, behind a line of 0", priced("when 0 price 0; price 6;").price(0, 0), 6);
+        Due.is("25, behind two lines", priced("when 0 price 1; when 0 price 0; when 1 price 6;").price(0, 0), 6);
         Due.is("25, a PRICE below 0", priced("price -5;").price(0, 0), -5);
         Due.is("25, a PRICE of 0 is one", priced("price 0; price 5;").price(0, 0), 0);
     }
@@ -571,9 +576,9 @@ public final class BoundsOfPricesTest {
     }
 
     private static void promise25OneOrZero() {
-        String[] texts = {"1<2", "2<2", "3<2", "1>2", "2>2", "3>2", "1=2", "2=2", "3=2", "not 0", "not 1", "not 2", "not -1",
-            "0 and 0", "0 and 5", "5 and 0", "5 and 6", "5 and -6", "0 or 0", "0 or 5", "5 or 0", "5 or 6", "-5 or 0",
-            "1 and 2 and 4", "1 and 2 and 0", "0 or 0 or 8", "2 and 4"};
+        String[] texts = {"1<2", "2<2", "3<2", "1>2", "2>2", "3>2", "1=2", "2=2", "3=2", "not 0", "not 1", "not 2",
+            "not -1", "0 and 0", "0 and 5", "5 and 0", "5 and 6", "5 and -6", "0 or 0", "0 or 5", "5 or 0", "5 or 6",
+            "-5 or 0", "1 and 2 and 4", "1 and 2 and 0", "0 or 0 or 8", "2 and 4"};
         int[] due = {1, 0, 0, 0, 0, 1, 0, 1, 0, 1, 0, 0, 0, 0, 0, 0, 1, 1, 0, 1, 1, 1, 1, 1, 0, 1, 1};
         for (int n = 0; n < texts.length; n++) {
             value("25, 1 or 0", texts[n], due[n]);

@@ -143,7 +143,7 @@ final class Twins {
             }
         }
 
-        /** What can't be asked for is told by changes: the text on the TAPE, the PRICES, what is full, what is UNTOLD. */
+        /** What can't be asked for is told by changes: what is on the TAPE, what PRICES say, what is full or UNTOLD. */
         void changes() {
             note("a HORSE more", x.horse(1, 155, 8, 100));
             note("a JOB more", x.job(1, 0, 1, 300, 2, 1));
